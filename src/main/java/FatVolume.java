@@ -1,5 +1,3 @@
-import java.util.Arrays;
-
 /**
  * A volume of files and directories with long names on a small disk. Every change is written beside
  * what is there and comes into force by the write of the boot record.
@@ -624,7 +622,6 @@ public final class FatVolume {
         void load(Disk disk, int cluster) {
             disk.loadCluster(cluster, bytes, 0);
             home = cluster;
-            slot = -1;
         }
 
         int[] bytes() {
@@ -735,10 +732,9 @@ public final class FatVolume {
 
         /** What stands behind a zero is no part of the short name. */
         private int sum(int entry) {
-            int length = shortLength(entry);
-            int first = length > 0 ? get(entry, NAME) : 0;
-            int second = length > 1 ? get(entry, NAME + 1) : 0;
-            int third = length > 2 ? get(entry, NAME + 2) : 0;
+            int first = get(entry, NAME);
+            int second = first == 0 ? 0 : get(entry, NAME + 1);
+            int third = second == 0 ? 0 : get(entry, NAME + 2);
             return sumOf(first, second, third);
         }
 
@@ -889,7 +885,9 @@ public final class FatVolume {
         }
 
         void clearFrom(int k) {
-            Arrays.fill(bytes, k, bytes.length, 0);
+            for (int i = k; i < bytes.length; i++) {
+                bytes[i] = 0;
+            }
         }
     }
 

@@ -185,6 +185,18 @@ final class PathTest {
         Trial.putEntry(v, 2, 5, 15, 65, 4 * 'R' & 255, 'n', 'o', 0, 0, 0);
         Trial.putEntry(v, 2, 6, 1, 'R', 0, 'S', 0, 0, 0, 5);
         Trial.due(5 * 256, () -> Trial.at(v, "no").look());
+        sumsOfShorterNames();
+    }
+
+    private static void sumsOfShorterNames() {
+        int[][] names = {{'R', 'S', 0, 4 * 'R' + 2 * 'S'}, {'R', 0, 0, 4 * 'R'}, {0, 0, 0, 0}, {0, 'S', 'T', 0}};
+        for (int[] name : names) {
+            FatVolume v = new FatVolume();
+            Trial.putEntry(v, 2, 0, 15, 65, name[3] & 255, 'n', 'o', 0, 0, 0);
+            Trial.putEntry(v, 2, 1, 1, name[0], name[1], name[2], 0, 0, 0, 5);
+            Trial.due(5 * 256, () -> Trial.at(v, "no").look());
+            Trial.due(0, () -> v.repair());
+        }
     }
 
     private static void otherKindsAreNoEntries() {
