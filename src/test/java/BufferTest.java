@@ -11,10 +11,10 @@ final class BufferTest {
     }
 
     private static void highestFirstWithoutZeros() {
-        FatVolume v = new FatVolume();
+        Volume v = new Volume();
         Trial.due(true, () -> v.type(0x4100000042000043L));
         Trial.due(Trial.name("ABC"), () -> v.make(false, 0));
-        FatVolume w = new FatVolume();
+        Volume w = new Volume();
         Trial.due(true, () -> w.type(0x5800L));
         Trial.due(true, () -> w.type(0L));
         Trial.due(true, () -> w.type(0x59L));
@@ -27,10 +27,10 @@ final class BufferTest {
             boolean fine = c >= 33 && c <= 126;
             for (int shift = 0; shift < 64; shift += 8) {
                 long eight = (long) c << shift;
-                Trial.due(fine, () -> new FatVolume().type(eight));
+                Trial.due(fine, () -> new Volume().type(eight));
             }
         }
-        FatVolume v = Trial.at(new FatVolume(), "AB");
+        Volume v = Trial.at(new Volume(), "AB");
         Trial.due(false, () -> v.type(Trial.packed("C ")));
         Trial.due(false, () -> v.type(-1L));
         Trial.due(false, () -> v.type(Trial.packed("\u0080C")));
@@ -38,13 +38,13 @@ final class BufferTest {
     }
 
     private static void bytesAtTheEdges() {
-        FatVolume v = Trial.at(new FatVolume(), "!~");
+        Volume v = Trial.at(new Volume(), "!~");
         Trial.due(Trial.name("_~1"), () -> v.make(false, 0));
         Trial.due("15 65 169 33 126 0 0 0", () -> Trial.entry(v, 3, 0));
     }
 
     private static void atMostForty() {
-        FatVolume v = Trial.at(new FatVolume(), "abcdefghij/abcdefghij/abcdefghij/abcdef");
+        Volume v = Trial.at(new Volume(), "abcdefghij/abcdefghij/abcdefghij/abcdef");
         Trial.due(false, () -> v.type(Trial.packed("gh")));
         Trial.due(-1, () -> v.look());
         Trial.due(true, () -> v.type('g'));
@@ -55,7 +55,7 @@ final class BufferTest {
     }
 
     private static void wipeEmpties() {
-        FatVolume v = Trial.at(new FatVolume(), "abcdefghij/abcdefghij/abcdefghij/abcdefg");
+        Volume v = Trial.at(new Volume(), "abcdefghij/abcdefghij/abcdefghij/abcdefg");
         v.wipe();
         Trial.due(Trial.ARGUMENT, () -> v.look());
         Trial.append(v, "A");
@@ -69,7 +69,7 @@ final class BufferTest {
     }
 
     private static void whileDown() {
-        FatVolume v = Trial.at(new FatVolume(), "A");
+        Volume v = Trial.at(new Volume(), "A");
         v.fail(1);
         v.make(false, 0);
         v.wipe();

@@ -17,7 +17,7 @@ final class ChangeTest {
 
     /** Bytes first, then the directory, then those above it. */
     private static void orderOfTaking() {
-        FatVolume v = new FatVolume();
+        Volume v = new Volume();
         Trial.at(v, "D").make(true, 1);
         Trial.at(v, "D/F").make(false, 2);
         Trial.due("255 0 0 255", () -> Trial.bytes(v, 0, 2, 4));
@@ -31,7 +31,7 @@ final class ChangeTest {
     }
 
     private static void directoriesUpToTheRoot() {
-        FatVolume v = new FatVolume();
+        Volume v = new Volume();
         Trial.at(v, "A").make(true, 1);
         Trial.at(v, "A/B").make(true, 2);
         Trial.at(v, "A/B/C").make(true, 3);
@@ -47,7 +47,7 @@ final class ChangeTest {
     }
 
     private static void oldTableStays() {
-        FatVolume v = Trial.at(new FatVolume(), "A");
+        Volume v = Trial.at(new Volume(), "A");
         v.make(false, 0);
         Trial.due("0 0 255 0 0", () -> Trial.bytes(v, 0, 0, 5));
         Trial.due("0 0 0 255 0", () -> Trial.bytes(v, 1, 0, 5));
@@ -60,7 +60,7 @@ final class ChangeTest {
     }
 
     private static void otherBytesOfTheTableAreCopied() {
-        FatVolume v = Trial.at(new FatVolume(), "A");
+        Volume v = Trial.at(new Volume(), "A");
         Trial.put(v, 0, 0, 5, 6);
         Trial.put(v, 0, 3, 1, 32, 253, 254, 7);
         Trial.put(v, 0, 31, 100);
@@ -71,7 +71,7 @@ final class ChangeTest {
     }
 
     private static void refusedWithWrites() {
-        FatVolume v = Trial.withFile("F");
+        Volume v = Trial.withFile("F");
         Trial.fill(v, 64);
         Trial.leaveFree(v, 30, 31);
         v.poke(30, 0, 7);
@@ -91,7 +91,7 @@ final class ChangeTest {
 
     /** A damaged table may tell the root's cluster free: it is taken and stays so. */
     private static void rootThatIsToldFree() {
-        FatVolume v = new FatVolume();
+        Volume v = new Volume();
         Trial.putEntry(v, 2, 4, 1, 'Z', 0, 0, 0, 0, 0, 6);
         v.poke(0, 2, 0);
         Trial.due(Trial.name("A"), () -> Trial.at(v, "A").make(false, 5));
@@ -99,7 +99,7 @@ final class ChangeTest {
         Trial.due(255, () -> v.peek(1, 2));
         Trial.due(5 * 256, () -> v.look());
         Trial.due(6 * 256, () -> Trial.at(v, "Z").look());
-        FatVolume w = new FatVolume();
+        Volume w = new Volume();
         w.poke(0, 2, 0);
         Trial.putEntry(w, 2, 4, 1, 'Z', 0, 0, 0, 0, 0, 6);
         Trial.due(Trial.name("D"), () -> Trial.at(w, "D").make(true, 5));
@@ -109,7 +109,7 @@ final class ChangeTest {
     }
 
     private static void spoiltRootThatIsToldFree() {
-        FatVolume v = Trial.at(new FatVolume(), "A");
+        Volume v = Trial.at(new Volume(), "A");
         v.poke(0, 2, 0);
         v.spoil(2);
         Trial.due(Trial.name("A"), () -> v.make(false, 5));
@@ -118,7 +118,7 @@ final class ChangeTest {
     }
 
     private static void chainThatIsToldFree() {
-        FatVolume v = Trial.withFile("F");
+        Volume v = Trial.withFile("F");
         Trial.fill(v, 8);
         int first = v.look() >> 17;
         int active = v.peek(-1, 0);
@@ -131,7 +131,7 @@ final class ChangeTest {
     }
 
     private static void badClusterInUseBecomesFree() {
-        FatVolume v = Trial.at(new FatVolume(), "D");
+        Volume v = Trial.at(new Volume(), "D");
         v.make(true, 0);
         v.poke(1, 3, 254);
         v.poke(1, 4, 254);
@@ -141,7 +141,7 @@ final class ChangeTest {
 
     /** Each directory of the path is written as it was read, with one entry changed. */
     private static void directoryInItself() {
-        FatVolume v = new FatVolume();
+        Volume v = new Volume();
         Trial.putEntry(v, 2, 0, 2, 'A', 0, 0, 2, 0, 0, 9);
         Trial.due(Trial.name("X"), () -> Trial.at(v, "A/A/X").make(false, 1));
         Trial.due("2 65 0 0 4 0 0 9", () -> Trial.entry(v, 5, 0));
@@ -153,7 +153,7 @@ final class ChangeTest {
     }
 
     private static void twiceTheSameChain() {
-        FatVolume v = new FatVolume();
+        Volume v = new Volume();
         Trial.putEntry(v, 2, 0, 1, 'A', 0, 0, 9, 100, 0, 9);
         Trial.putEntry(v, 2, 1, 1, 'B', 0, 0, 9, 60, 0, 9);
         Trial.put(v, 0, 9, 10, 255);

@@ -11,7 +11,7 @@ final class CutTest {
     }
 
     private static void firstBytesAlone() {
-        FatVolume v = Trial.withFile("F");
+        Volume v = Trial.withFile("F");
         Trial.fill(v, 130);
         Trial.due(1, () -> v.cut(129));
         Trial.due(129 + 9 * 256, () -> v.look() & 0xffff);
@@ -32,7 +32,7 @@ final class CutTest {
     }
 
     private static void toNothing() {
-        FatVolume v = Trial.withFile("F");
+        Volume v = Trial.withFile("F");
         Trial.fill(v, 70);
         Trial.due(70, () -> v.cut(0));
         Trial.due("1 70 0 0 0 0 0 9", () -> Trial.entry(v, v.peek(-1, 1), 0));
@@ -43,7 +43,7 @@ final class CutTest {
     }
 
     private static void noneGoes() {
-        FatVolume v = Trial.withFile("F");
+        Volume v = Trial.withFile("F");
         Trial.due(0, () -> v.cut(0));
         Trial.fill(v, 9);
         String before = Trial.disk(v);
@@ -54,7 +54,7 @@ final class CutTest {
     }
 
     private static void numbersAndFiles() {
-        FatVolume v = Trial.withFile("F");
+        Volume v = Trial.withFile("F");
         Trial.fill(v, 9);
         Trial.at(v, "D").make(true, 0);
         String before = Trial.disk(v);
@@ -69,7 +69,7 @@ final class CutTest {
     }
 
     private static void tooLongBySizeByte() {
-        FatVolume v = Trial.withFile("F");
+        Volume v = Trial.withFile("F");
         Trial.fill(v, 192);
         int root = v.peek(-1, 1);
         v.poke(root, 5, 255);
@@ -84,7 +84,7 @@ final class CutTest {
     }
 
     private static void brokenChainCountsAsZeros() {
-        FatVolume v = Trial.withFile("F");
+        Volume v = Trial.withFile("F");
         Trial.fill(v, 130);
         v.poke(v.peek(-1, 0), v.look() >> 17, 254);
         Trial.due(30, () -> v.cut(100));

@@ -15,7 +15,7 @@ final class FailMountTest {
     }
 
     private static void numbers() {
-        FatVolume v = Trial.at(new FatVolume(), "A");
+        Volume v = Trial.at(new Volume(), "A");
         for (int n : new int[] {-1, 41, Integer.MAX_VALUE, Integer.MIN_VALUE}) {
             Trial.due(false, () -> v.fail(n));
         }
@@ -31,8 +31,8 @@ final class FailMountTest {
         Trial.due(Trial.name("A"), () -> v.make(false, 0));
     }
 
-    private static FatVolume deep() {
-        FatVolume v = new FatVolume();
+    private static Volume deep() {
+        Volume v = new Volume();
         Trial.at(v, "D").make(true, 0);
         Trial.at(v, "D/F").make(false, 0);
         Trial.fill(v, 128);
@@ -41,7 +41,7 @@ final class FailMountTest {
 
     private static void everyWriteOfAMake() {
         for (int n = 1; n <= 6; n++) {
-            FatVolume v = deep();
+            Volume v = deep();
             Trial.at(v, "D/E");
             v.fail(n);
             int answer = n <= 5 ? -2 : Trial.name("E");
@@ -51,7 +51,7 @@ final class FailMountTest {
         }
     }
 
-    private static void stoodOrWent(FatVolume v, boolean down, int n) {
+    private static void stoodOrWent(Volume v, boolean down, int n) {
         Trial.due(down ? 1 : 0, () -> v.peek(-1, 4));
         if (down) {
             Trial.due(Trial.STATE, () -> v.look());
@@ -63,7 +63,7 @@ final class FailMountTest {
 
     private static void everyWriteOfAFile() {
         for (int n = 1; n <= 8; n++) {
-            FatVolume v = deep();
+            Volume v = deep();
             int root = v.peek(-1, 1);
             int active = v.peek(-1, 0);
             v.fail(n);
@@ -77,13 +77,13 @@ final class FailMountTest {
 
     private static void everyWriteOfARemove() {
         for (int n = 1; n <= 5; n++) {
-            FatVolume v = deep();
+            Volume v = deep();
             v.fail(n);
             Trial.due(n <= 4 ? -2 : 1, () -> v.remove());
             stoodOrWent(v, n <= 4, n);
             Trial.due(n <= 4 ? 1 : -1, () -> v.read(0));
         }
-        FatVolume v = deep();
+        Volume v = deep();
         v.fail(4);
         Trial.due(-2, () -> v.cut(0));
         v.mount();
@@ -93,7 +93,7 @@ final class FailMountTest {
     }
 
     private static void writesAreCountedOverCalls() {
-        FatVolume v = Trial.at(new FatVolume(), "A");
+        Volume v = Trial.at(new Volume(), "A");
         v.fail(4);
         Trial.due(Trial.name("A"), () -> v.make(false, 0));
         Trial.due(-1, () -> v.make(false, 0));
@@ -104,7 +104,7 @@ final class FailMountTest {
     }
 
     private static void theLastTellingCounts() {
-        FatVolume v = Trial.at(new FatVolume(), "A");
+        Volume v = Trial.at(new Volume(), "A");
         v.fail(1);
         v.fail(0);
         Trial.due(Trial.name("A"), () -> v.make(false, 0));
@@ -116,7 +116,7 @@ final class FailMountTest {
     }
 
     private static void fortiethWrite() {
-        FatVolume v = Trial.at(new FatVolume(), "A");
+        Volume v = Trial.at(new Volume(), "A");
         Trial.due(true, () -> v.fail(40));
         for (int i = 0; i < 13; i++) {
             int answer = i % 2 == 0 ? Trial.name("A") : 1;
@@ -127,7 +127,7 @@ final class FailMountTest {
     }
 
     private static void mountTwice() {
-        FatVolume v = Trial.at(new FatVolume(), "A");
+        Volume v = Trial.at(new Volume(), "A");
         Trial.due(false, () -> v.mount());
         v.fail(2);
         Trial.due(false, () -> v.mount());
@@ -142,7 +142,7 @@ final class FailMountTest {
 
     /** A failure at the boot record: the other table is written, but not in force. */
     private static void tableWithoutBoot() {
-        FatVolume v = Trial.at(new FatVolume(), "A");
+        Volume v = Trial.at(new Volume(), "A");
         v.poke(0, 0, 9);
         v.poke(0, 1, 8);
         v.poke(1, 31, 7);
@@ -159,7 +159,7 @@ final class FailMountTest {
         Trial.due("0 2 29 0 1", () -> Trial.bytes(v, -1, 0, 5));
         v.mount();
         Trial.due(-1, () -> v.look());
-        FatVolume w = Trial.at(new FatVolume(), "A");
+        Volume w = Trial.at(new Volume(), "A");
         Trial.put(w, 3, 0, 5, 6);
         w.fail(1);
         w.make(false, 0);
@@ -167,7 +167,7 @@ final class FailMountTest {
     }
 
     private static void repairIsNoWrite() {
-        FatVolume v = Trial.at(new FatVolume(), "A");
+        Volume v = Trial.at(new Volume(), "A");
         v.fail(1);
         v.poke(0, 9, 9);
         v.poke(2, 0, 9);

@@ -20,7 +20,7 @@ final class MakeTest {
 
     private static void ownShortNames() {
         for (String text : new String[] {"A", "Z9", "DOC", "0", "09A", "AZZ"}) {
-            FatVolume v = Trial.at(new FatVolume(), text);
+            Volume v = Trial.at(new Volume(), text);
             Trial.due(Trial.name(text), () -> v.make(false, 7));
             int name = Trial.name(text);
             String due = "1 " + (name >> 16) + " " + (name >> 8 & 255) + " " + (name & 255) + " 0 0 0 7";
@@ -30,13 +30,13 @@ final class MakeTest {
     }
 
     private static void oneLongEntry() {
-        FatVolume v = Trial.at(new FatVolume(), "abcde");
+        Volume v = Trial.at(new Volume(), "abcde");
         Trial.due(Trial.name("A~1"), () -> v.make(false, 7));
         Trial.due("15 65 49 97 98 99 100 101", () -> Trial.entry(v, 3, 0));
         Trial.due("1 65 126 49 0 0 0 7", () -> Trial.entry(v, 3, 1));
         Trial.due("0 0 0 0 0 0 0 0", () -> Trial.entry(v, 3, 2));
         for (String text : new String[] {"a", "ABCD", "A1_", "Ab", "A-", "AB@", "AB["}) {
-            FatVolume w = Trial.at(new FatVolume(), text);
+            Volume w = Trial.at(new Volume(), text);
             Trial.due(Trial.name("A~1"), () -> w.make(false, 7));
             Trial.due("15 65", () -> Trial.bytes(w, 3, 0, 2));
             Trial.due("1 65 126 49 0 0 0 7", () -> Trial.entry(w, 3, 1));
@@ -44,12 +44,12 @@ final class MakeTest {
     }
 
     private static void twoLongEntries() {
-        FatVolume v = Trial.at(new FatVolume(), "README");
+        Volume v = Trial.at(new Volume(), "README");
         Trial.due(Trial.name("R~1"), () -> v.make(false, 255));
         Trial.due("15 66 117 69 0 0 0 0", () -> Trial.entry(v, 3, 0));
         Trial.due("15 1 117 82 69 65 68 77", () -> Trial.entry(v, 3, 1));
         Trial.due("1 82 126 49 0 0 0 255", () -> Trial.entry(v, 3, 2));
-        FatVolume w = Trial.at(new FatVolume(), "0123456789");
+        Volume w = Trial.at(new Volume(), "0123456789");
         Trial.due(Trial.name("0~1"), () -> w.make(true, 0));
         Trial.due("15 66 237 53 54 55 56 57", () -> Trial.entry(w, 4, 0));
         Trial.due("15 1 237 48 49 50 51 52", () -> Trial.entry(w, 4, 1));
@@ -60,13 +60,13 @@ final class MakeTest {
         String[][] names = {{".x", "X~1"}, {"..", "_~1"}, {"-9a", "9~1"}, {"a9", "A~1"}, {"~~z", "Z~1"}, {"_a", "A~1"},
             {"+++++++++q", "Q~1"}, {"@[`{:", "_~1"}, {"^Z", "Z~1"}, {"z1", "Z~1"}, {"#0", "0~1"}, {"a", "A~1"}};
         for (String[] name : names) {
-            FatVolume v = Trial.at(new FatVolume(), name[0]);
+            Volume v = Trial.at(new Volume(), name[0]);
             Trial.due(Trial.name(name[1]), () -> v.make(false, 0));
         }
     }
 
     private static void leastDigit() {
-        FatVolume v = new FatVolume();
+        Volume v = new Volume();
         String[] names = {"aa", "ab", "ac", "ad"};
         for (int i = 0; i < 4; i++) {
             int digit = i + 1;
@@ -75,22 +75,22 @@ final class MakeTest {
         }
         Trial.at(v, "ac").remove();
         Trial.due(Trial.name("A~3"), () -> Trial.at(v, "ae").make(false, 0));
-        FatVolume w = new FatVolume();
+        Volume w = new Volume();
         for (int i = 0; i < 6; i++) {
             Trial.putEntry(w, 2, i, 1 + i % 2, 'A', '~', '1' + i, 0, 0, 0, 0);
         }
         Trial.due(Trial.name("A~7"), () -> Trial.at(w, "ax").make(false, 0));
-        FatVolume x = new FatVolume();
+        Volume x = new Volume();
         Trial.putEntry(x, 2, 0, 1, 'a', '~', '1', 0, 0, 0, 0);
         Trial.due(Trial.name("A~2"), () -> Trial.at(x, "ax").make(false, 0));
     }
 
     private static void digitsLookAtShortNamesAlone() {
-        FatVolume v = new FatVolume();
+        Volume v = new Volume();
         Trial.due(Trial.name("A~1"), () -> Trial.at(v, "a~2").make(false, 0));
         Trial.due(Trial.name("A~2"), () -> Trial.at(v, "ab").make(false, 0));
         Trial.due(Trial.name("B~1"), () -> Trial.at(v, "bb").make(false, 0));
-        FatVolume w = new FatVolume();
+        Volume w = new Volume();
         Trial.putEntry(w, 2, 0, 7, 'A', '~', '1', 0, 0, 0, 0);
         Trial.putEntry(w, 2, 1, 0, 'A', '~', '1', 0, 0, 0, 0);
         Trial.putEntry(w, 2, 2, 15, 'A', '~', '1', 0, 0, 0, 0);
@@ -99,7 +99,7 @@ final class MakeTest {
     }
 
     private static void emptyDirectory() {
-        FatVolume v = new FatVolume();
+        Volume v = new Volume();
         Trial.put(v, 3, 0, 1, 'X', 0, 0, 0, 0, 0, 0);
         Trial.put(v, 3, 63, 9);
         Trial.due(Trial.name("D"), () -> Trial.at(v, "D").make(true, 3));
@@ -114,20 +114,20 @@ final class MakeTest {
 
     private static void times() {
         for (int time : new int[] {-1, 256, Integer.MIN_VALUE, Integer.MAX_VALUE}) {
-            FatVolume v = Trial.at(new FatVolume(), "A");
+            Volume v = Trial.at(new Volume(), "A");
             Trial.due(Trial.ARGUMENT, () -> v.make(false, time));
             Trial.due(Trial.ARGUMENT, () -> v.make(true, time));
             Trial.due(2, () -> v.peek(-1, 1));
         }
         for (int time : new int[] {0, 1, 255}) {
-            FatVolume v = Trial.at(new FatVolume(), "A");
+            Volume v = Trial.at(new Volume(), "A");
             v.make(false, time);
             Trial.due(256 * time, () -> v.look());
         }
     }
 
     private static void whatIsThereOrIsNot() {
-        FatVolume v = Trial.withFile("readme");
+        Volume v = Trial.withFile("readme");
         String before = Trial.disk(v);
         for (String path : new String[] {"README", "r~1", "R~1", "X/Y", "README/X"}) {
             Trial.due(-1, () -> Trial.at(v, path).make(false, 2));
@@ -137,7 +137,7 @@ final class MakeTest {
     }
 
     private static void firstPlaceWhereAllFit() {
-        FatVolume v = new FatVolume();
+        Volume v = new Volume();
         for (String path : new String[] {"A", "B", "C", "D", "E", "F"}) {
             Trial.at(v, path).make(false, 0);
         }
@@ -160,7 +160,7 @@ final class MakeTest {
     }
 
     private static void noPlace() {
-        FatVolume v = new FatVolume();
+        Volume v = new Volume();
         for (int i = 0; i < 8; i++) {
             String path = "" + i;
             Trial.due(Trial.name(path), () -> Trial.at(v, path).make(i(path) % 2 == 0, 0));
@@ -178,7 +178,7 @@ final class MakeTest {
     }
 
     private static void otherKindsTakePlace() {
-        FatVolume v = new FatVolume();
+        Volume v = new Volume();
         Trial.putEntry(v, 2, 0, 7);
         Trial.putEntry(v, 2, 1, 15);
         Trial.putEntry(v, 2, 3, 255);
@@ -189,7 +189,7 @@ final class MakeTest {
     }
 
     private static void freeEntriesAreWrittenOver() {
-        FatVolume v = new FatVolume();
+        Volume v = new Volume();
         Trial.putEntry(v, 2, 0, 0, 9, 9, 9, 9, 9, 9, 9);
         Trial.putEntry(v, 2, 1, 0, 9, 9, 9, 9, 9, 9, 9);
         Trial.putEntry(v, 2, 2, 0, 9, 9, 9, 9, 9, 9, 9);
@@ -200,7 +200,7 @@ final class MakeTest {
     }
 
     private static void inDirectoriesBelow() {
-        FatVolume v = new FatVolume();
+        Volume v = new Volume();
         Trial.at(v, "D").make(true, 1);
         Trial.at(v, "D/E").make(true, 2);
         Trial.due(Trial.name("D~1"), () -> Trial.at(v, "d/e/d.x").make(false, 3));

@@ -9,7 +9,7 @@ final class NewObjectTest {
     }
 
     private static void bootRecord() {
-        FatVolume v = new FatVolume();
+        Volume v = new Volume();
         Trial.due(0, () -> v.peek(-1, 0));
         Trial.due(2, () -> v.peek(-1, 1));
         Trial.due(29, () -> v.peek(-1, 2));
@@ -21,7 +21,7 @@ final class NewObjectTest {
 
     private static void bytesOnDisk() {
         for (int where = 0; where < 32; where++) {
-            FatVolume v = new FatVolume();
+            Volume v = new Volume();
             for (int k = 0; k < (where < 2 ? 32 : 64); k++) {
                 int place = where;
                 int at = k;
@@ -31,16 +31,16 @@ final class NewObjectTest {
     }
 
     private static void emptyBuffer() {
-        FatVolume v = new FatVolume();
+        Volume v = new Volume();
         Trial.due(Trial.ARGUMENT, () -> v.look());
         Trial.append(v, "a/b/cdefghijkl/mnopqrstuv/wxyzabcdefghij");
         Trial.due(false, () -> v.type('k'));
     }
 
     private static void objectsAreApart() {
-        FatVolume first = Trial.withFile("A");
+        Volume first = Trial.withFile("A");
         first.spoil(4);
-        FatVolume second = new FatVolume();
+        Volume second = new Volume();
         Trial.due(2, () -> second.peek(-1, 1));
         Trial.due(true, () -> second.spoil(4));
         Trial.due(-1, () -> Trial.at(second, "A").look());

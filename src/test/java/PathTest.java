@@ -19,12 +19,12 @@ final class PathTest {
     private static void noPaths() {
         String[] wrong = {"", "/", "a/", "/a", "a//b", "a/b/c/d/e", "abcdefghijk", "a/abcdefghijk", "a/b/c/d/"};
         for (String text : wrong) {
-            FatVolume v = Trial.at(new FatVolume(), text);
+            Volume v = Trial.at(new Volume(), text);
             allThrow(v, Trial.ARGUMENT);
         }
     }
 
-    private static void allThrow(FatVolume v, String exception) {
+    private static void allThrow(Volume v, String exception) {
         Trial.due(exception, () -> v.make(false, 0));
         Trial.due(exception, () -> v.make(true, 0));
         Trial.due(exception, () -> v.remove());
@@ -35,7 +35,7 @@ final class PathTest {
     }
 
     private static void pathsThatAre() {
-        FatVolume v = new FatVolume();
+        Volume v = new Volume();
         String[] directories = {"abcdefghij", "abcdefghij/B", "abcdefghij/B/C"};
         for (String path : directories) {
             Trial.at(v, path).make(true, 0);
@@ -47,7 +47,7 @@ final class PathTest {
     }
 
     private static void downComesFirst() {
-        FatVolume v = Trial.at(new FatVolume(), "A");
+        Volume v = Trial.at(new Volume(), "A");
         v.fail(1);
         Trial.due(-2, () -> v.make(false, 0));
         allThrow(v, Trial.STATE);
@@ -61,7 +61,7 @@ final class PathTest {
     }
 
     private static void argumentsComeBeforeWhatIsThere() {
-        FatVolume v = Trial.at(new FatVolume(), "X/Y");
+        Volume v = Trial.at(new Volume(), "X/Y");
         Trial.due(Trial.ARGUMENT, () -> v.make(false, -1));
         Trial.due(Trial.ARGUMENT, () -> v.make(true, 256));
         Trial.due(Trial.ARGUMENT, () -> v.write(0, 1L, 0, 0));
@@ -71,17 +71,17 @@ final class PathTest {
     }
 
     private static void lettersAreAlike() {
-        FatVolume v = Trial.withFile("azAZ");
+        Volume v = Trial.withFile("azAZ");
         Trial.due(256, () -> Trial.at(v, "AZaz").look());
         Trial.due(256, () -> Trial.at(v, "azaz").look());
         Trial.due(-1, () -> Trial.at(v, "AZAZ").make(false, 0));
-        FatVolume w = Trial.withFile("AZ9");
+        Volume w = Trial.withFile("AZ9");
         Trial.due(256, () -> Trial.at(w, "az9").look());
         Trial.due(-1, () -> Trial.at(w, "Az9").make(true, 0));
     }
 
     private static void otherCharactersAreNot() {
-        FatVolume v = Trial.withFile("@[`{");
+        Volume v = Trial.withFile("@[`{");
         Trial.due(256, () -> Trial.at(v, "@[`{").look());
         Trial.due(-1, () -> Trial.at(v, "`[`{").look());
         Trial.due(-1, () -> Trial.at(v, "@{`{").look());
@@ -90,25 +90,25 @@ final class PathTest {
     }
 
     private static void foundByShortAndLongName() {
-        FatVolume v = Trial.withFile("longername");
+        Volume v = Trial.withFile("longername");
         Trial.due(256, () -> Trial.at(v, "LongerName").look());
         Trial.due(256, () -> Trial.at(v, "l~1").look());
         String[] others = {"longernam", "longe", "ernam", "rname", "l~", "l~2", "longername".substring(5), "l", "longernamf"};
         for (String other : others) {
             Trial.due(-1, () -> Trial.at(v, other).look());
         }
-        FatVolume w = Trial.withFile("lower");
+        Volume w = Trial.withFile("lower");
         Trial.due(256, () -> Trial.at(w, "LOWER").look());
         Trial.due(-1, () -> Trial.at(w, "lowers").look());
         Trial.due(-1, () -> Trial.at(w, "lowe").look());
-        FatVolume x = Trial.withFile("A");
+        Volume x = Trial.withFile("A");
         Trial.due(-1, () -> Trial.at(x, "AB").look());
         Trial.due(-1, () -> Trial.at(x, "B").look());
     }
 
     /** A long name may be another entry's short name. */
     private static void firstSuchIsFound() {
-        FatVolume v = Trial.at(new FatVolume(), "a~2");
+        Volume v = Trial.at(new Volume(), "a~2");
         Trial.due(Trial.name("A~1"), () -> v.make(false, 5));
         Trial.due(Trial.name("A~2"), () -> Trial.at(v, "abc").make(true, 6));
         Trial.due(5 * 256, () -> Trial.at(v, "A~2").look());
@@ -118,7 +118,7 @@ final class PathTest {
     }
 
     private static void throughFilesAndLostDirectories() {
-        FatVolume v = Trial.withFile("F");
+        Volume v = Trial.withFile("F");
         Trial.at(v, "D").make(true, 0);
         Trial.at(v, "D/X").make(false, 4);
         Trial.due(-1, () -> Trial.at(v, "F/X").look());
@@ -142,7 +142,7 @@ final class PathTest {
 
     private static void longNamesByTheirEntries() {
         int sum = (4 * 'Q' + 2 * '~' + '1') & 255;
-        FatVolume v = new FatVolume();
+        Volume v = new Volume();
         Trial.putEntry(v, 2, 0, 15, 65, sum, 'q', 'r', 0, 0, 0);
         Trial.putEntry(v, 2, 1, 1, 'Q', '~', '1', 0, 0, 0, 1);
         Trial.due(256, () -> Trial.at(v, "QR").look());
@@ -169,7 +169,7 @@ final class PathTest {
     }
 
     private static void charactersUpToTheFirstZero() {
-        FatVolume v = new FatVolume();
+        Volume v = new Volume();
         Trial.putEntry(v, 2, 0, 1, 'A', 0, 'B', 0, 0, 0, 1);
         Trial.due(256, () -> Trial.at(v, "A").look());
         Trial.due(-1, () -> Trial.at(v, "AB").look());
@@ -191,7 +191,7 @@ final class PathTest {
     private static void sumsOfShorterNames() {
         int[][] names = {{'R', 'S', 0, 4 * 'R' + 2 * 'S'}, {'R', 0, 0, 4 * 'R'}, {0, 0, 0, 0}, {0, 'S', 'T', 0}};
         for (int[] name : names) {
-            FatVolume v = new FatVolume();
+            Volume v = new Volume();
             Trial.putEntry(v, 2, 0, 15, 65, name[3] & 255, 'n', 'o', 0, 0, 0);
             Trial.putEntry(v, 2, 1, 1, name[0], name[1], name[2], 0, 0, 0, 5);
             Trial.due(5 * 256, () -> Trial.at(v, "no").look());
@@ -200,8 +200,8 @@ final class PathTest {
     }
 
     private static void otherKindsAreNoEntries() {
-        FatVolume v = new FatVolume();
         for (int kind = 0; kind < 256; kind++) {
+            Volume v = new Volume();
             Trial.putEntry(v, 2, 0, kind, 'A', 0, 0, 0, 0, 0, 0);
             int due = kind == 1 ? 0 : kind == 2 ? 65536 : -1;
             Trial.due(due, () -> Trial.at(v, "A").look());

@@ -14,7 +14,7 @@ final class PokePeekTest {
 
     private static void everyPlace() {
         for (int where = 0; where < 32; where++) {
-            FatVolume v = new FatVolume();
+            Volume v = new Volume();
             int place = where;
             int bytes = where < 2 ? 32 : 64;
             for (int k = 0; k < bytes; k++) {
@@ -31,7 +31,7 @@ final class PokePeekTest {
     }
 
     private static void wrongPlaces() {
-        FatVolume v = new FatVolume();
+        Volume v = new Volume();
         String before = Trial.disk(v);
         int[][] wrong = {{-1, 0}, {-1, 1}, {-1, 4}, {-2, 0}, {32, 0}, {0, 32}, {1, 32}, {1, -1}, {0, 63}, {2, 64}, {2, -1},
             {31, 64}, {FAR[0], 0}, {FAR[1], 0}, {0, FAR[0]}, {0, FAR[1]}, {5, FAR[0]}, {5, FAR[1]}};
@@ -48,7 +48,7 @@ final class PokePeekTest {
     }
 
     private static void wrongBytes() {
-        FatVolume v = new FatVolume();
+        Volume v = new Volume();
         for (int b : new int[] {-1, 256, FAR[0], FAR[1]}) {
             Trial.due(false, () -> v.poke(0, 2, b));
             Trial.due(false, () -> v.poke(2, 2, b));
@@ -61,7 +61,7 @@ final class PokePeekTest {
     }
 
     private static void bytesAreTheDisk() {
-        FatVolume v = new FatVolume();
+        Volume v = new Volume();
         Trial.putEntry(v, 2, 3, 1, 'P', 'Q', 0, 9, 2, 0, 4);
         Trial.put(v, 9, 0, 55, 66);
         Trial.due(2 + 4 * 256 + 9 * 131072, () -> Trial.at(v, "PQ").look());
@@ -69,7 +69,7 @@ final class PokePeekTest {
     }
 
     private static void aboutTheDisk() {
-        FatVolume v = Trial.at(new FatVolume(), "A");
+        Volume v = Trial.at(new Volume(), "A");
         Trial.put(v, 0, 0, 0, 254);
         Trial.put(v, 0, 29, 254, 254, 254);
         Trial.put(v, 1, 20, 254, 254);
@@ -83,7 +83,7 @@ final class PokePeekTest {
     }
 
     private static void whileDown() {
-        FatVolume v = Trial.at(new FatVolume(), "A");
+        Volume v = Trial.at(new Volume(), "A");
         v.fail(1);
         v.make(false, 0);
         Trial.due(true, () -> v.poke(5, 5, 5));

@@ -12,7 +12,8 @@ import java.util.TreeMap;
  */
 final class RandomRunsTest {
     private static final String[] NAMES = {"A", "B7", "abc", "a.txt", "longername", "Zz", "..", "sixsix"};
-    private static final int CALLS = 500;
+    /** Behind it a run keeps some calls to look at all files. */
+    private static final int LAST_STEP = 380;
 
     private static final class Node {
         final boolean directory;
@@ -26,9 +27,8 @@ final class RandomRunsTest {
     }
 
     private final Random random;
-    private final FatVolume v = new FatVolume();
+    private final Volume v = new Volume();
     private final Map<String, Node> nodes = new TreeMap<>();
-    private int calls = 0;
 
     private RandomRunsTest(long seed) {
         random = new Random(seed);
@@ -38,7 +38,7 @@ final class RandomRunsTest {
         Map<String, Integer> answers = new HashMap<>();
         for (long seed = 1; seed <= 400; seed++) {
             RandomRunsTest run = new RandomRunsTest(seed);
-            while (run.calls < CALLS - 120) {
+            while (run.v.calls() < LAST_STEP) {
                 answers.merge(run.step(), 1, Integer::sum);
             }
             run.checkAll();
@@ -51,7 +51,6 @@ final class RandomRunsTest {
 
     private String type(String path) {
         Trial.at(v, path);
-        calls += 1 + (path.length() + 7) / 8;
         return path.toLowerCase(Locale.ROOT);
     }
 
@@ -84,21 +83,17 @@ final class RandomRunsTest {
     private String step() {
         if (random.nextInt(25) == 0) {
             v.spoil(random.nextInt(34));
-            calls++;
         }
         if (random.nextInt(6) == 0) {
             v.fail(random.nextInt(12));
-            calls++;
         }
         int what = random.nextInt(10);
         String path = type(what < 5 ? randomPath() : existingFile());
-        calls++;
         String answer = what < 4 ? make(path) : what < 5 ? remove(path) : what < 9 ? write(path) : cut(path);
         if (answer.equals("-2")) {
             Trial.due(1, () -> v.peek(-1, 4));
             Trial.due(Trial.STATE, () -> v.look());
             Trial.due(true, () -> v.mount());
-            calls += 3;
         }
         check(path);
         return answer;
@@ -187,7 +182,6 @@ final class RandomRunsTest {
 
     private void check(String path) {
         Node node = nodes.get(path);
-        calls++;
         if (node == null) {
             Trial.due(-1, () -> v.look());
             return;
@@ -198,7 +192,6 @@ final class RandomRunsTest {
             int k = random.nextInt(node.bytes.length);
             Trial.due(node.bytes[k] & 255, () -> v.read(k));
             Trial.due(-1, () -> v.read(node.bytes.length));
-            calls += 2;
         }
     }
 
@@ -206,7 +199,7 @@ final class RandomRunsTest {
         int used = 1;
         for (Map.Entry<String, Node> node : nodes.entrySet()) {
             used += node.getValue().directory ? 1 : (node.getValue().bytes.length + 63) / 64;
-            if (calls < CALLS - 10) {
+            if (v.calls() < Volume.CALLS - 15) {
                 check(type(node.getKey()));
             }
         }

@@ -12,7 +12,7 @@ final class ReadLookTest {
     }
 
     private static void everyByte() {
-        FatVolume v = Trial.withFile("F");
+        Volume v = Trial.withFile("F");
         Trial.fill(v, 192);
         for (int k = 0; k < 192; k++) {
             int at = k;
@@ -22,7 +22,7 @@ final class ReadLookTest {
     }
 
     private static void noSuchByte() {
-        FatVolume v = Trial.withFile("F");
+        Volume v = Trial.withFile("F");
         Trial.due(-1, () -> v.read(0));
         Trial.fill(v, 3);
         for (int k : new int[] {-1, 3, 64, 256, Integer.MAX_VALUE, Integer.MIN_VALUE}) {
@@ -32,7 +32,7 @@ final class ReadLookTest {
     }
 
     private static void noFile() {
-        FatVolume v = Trial.at(new FatVolume(), "D");
+        Volume v = Trial.at(new Volume(), "D");
         v.make(true, 0);
         v.poke(4, 5, 64);
         for (String path : new String[] {"D", "E", "D/F"}) {
@@ -41,7 +41,7 @@ final class ReadLookTest {
     }
 
     private static void chainsThatEndBefore() {
-        FatVolume v = Trial.withFile("F");
+        Volume v = Trial.withFile("F");
         Trial.fill(v, 130);
         int root = v.peek(-1, 1);
         int first = v.look() >> 17;
@@ -60,7 +60,7 @@ final class ReadLookTest {
     }
 
     private static void chainsThatGoRound() {
-        FatVolume v = Trial.withFile("F");
+        Volume v = Trial.withFile("F");
         v.poke(1, 31, 31);
         v.poke(31, 62, 8);
         v.poke(31, 63, 9);
@@ -73,7 +73,7 @@ final class ReadLookTest {
     }
 
     private static void whatIsLookedAt() {
-        FatVolume v = Trial.at(new FatVolume(), "D");
+        Volume v = Trial.at(new Volume(), "D");
         v.make(true, 17);
         Trial.due(65536 + 17 * 256 + 3 * 131072, () -> v.look());
         Trial.at(v, "D/F").make(false, 255);
@@ -88,7 +88,7 @@ final class ReadLookTest {
     }
 
     private static void nothingIsWritten() {
-        FatVolume v = Trial.withFile("F");
+        Volume v = Trial.withFile("F");
         Trial.fill(v, 10);
         String before = Trial.disk(v);
         v.fail(1);

@@ -13,7 +13,7 @@ final class RemoveTest {
 
     private static void entriesGo() {
         for (String name : new String[] {"A", "abc", "abcdefghij"}) {
-            FatVolume v = Trial.withFile("X");
+            Volume v = Trial.withFile("X");
             Trial.at(v, name).make(false, 9);
             Trial.at(v, "Y").make(false, 2);
             Trial.due(1, () -> Trial.at(v, name).remove());
@@ -32,13 +32,13 @@ final class RemoveTest {
     }
 
     private static void chainsAreFree() {
-        FatVolume v = Trial.withFile("F");
+        Volume v = Trial.withFile("F");
         Trial.fill(v, 130);
         Trial.due(26, () -> v.peek(-1, 2));
         Trial.due(1, () -> v.remove());
         Trial.due(29, () -> v.peek(-1, 2));
         Trial.due(0, () -> v.repair());
-        FatVolume w = Trial.withFile("F");
+        Volume w = Trial.withFile("F");
         Trial.fill(w, 130);
         int first = w.look() >> 17;
         w.poke(w.peek(-1, 1), 5, 64);
@@ -49,7 +49,7 @@ final class RemoveTest {
     }
 
     private static void directories() {
-        FatVolume v = Trial.at(new FatVolume(), "dir");
+        Volume v = Trial.at(new Volume(), "dir");
         v.make(true, 0);
         Trial.due(28, () -> v.peek(-1, 2));
         Trial.due(1, () -> v.remove());
@@ -66,7 +66,7 @@ final class RemoveTest {
     private static void fullDirectories() {
         for (int kind : new int[] {1, 2, 7, 15, 255}) {
             for (int slot : new int[] {0, 7}) {
-                FatVolume v = Trial.at(new FatVolume(), "D");
+                Volume v = Trial.at(new Volume(), "D");
                 v.make(true, 0);
                 v.poke(3, 8 * slot, kind);
                 Trial.due(-1, () -> v.remove());
@@ -79,7 +79,7 @@ final class RemoveTest {
 
     private static void lostDirectory() {
         for (int lost : new int[] {0, 1, 32, 255}) {
-            FatVolume v = Trial.at(new FatVolume(), "D");
+            Volume v = Trial.at(new Volume(), "D");
             v.make(true, 0);
             v.poke(4, 4, lost);
             Trial.due(1, () -> v.remove());
@@ -90,14 +90,14 @@ final class RemoveTest {
 
     /** Long entries that do not give it its name are not its own. */
     private static void strayLongEntriesStay() {
-        FatVolume v = Trial.withFile("abcdefg");
+        Volume v = Trial.withFile("abcdefg");
         v.poke(3, 2, v.peek(3, 2) ^ 1);
         Trial.due(1, () -> Trial.at(v, "A~1").remove());
         int root = v.peek(-1, 1);
         Trial.due("15 66", () -> Trial.bytes(v, root, 0, 2));
         Trial.due("15 1", () -> Trial.bytes(v, root, 8, 2));
         Trial.due("0 0 0 0 0 0 0 0", () -> Trial.entry(v, root, 2));
-        FatVolume w = Trial.withFile("abcdefg");
+        Volume w = Trial.withFile("abcdefg");
         w.poke(3, 9, 65);
         Trial.due(1, () -> Trial.at(w, "abcde").remove());
         Trial.due("15 66", () -> Trial.bytes(w, w.peek(-1, 1), 0, 2));
@@ -105,7 +105,7 @@ final class RemoveTest {
     }
 
     private static void isNotThere() {
-        FatVolume v = Trial.withFile("A");
+        Volume v = Trial.withFile("A");
         String before = Trial.disk(v);
         for (String path : new String[] {"B", "A/B", "B/A"}) {
             Trial.due(-1, () -> Trial.at(v, path).remove());

@@ -35,7 +35,7 @@ final class RepairTest {
     }
 
     private static void soundDisk() {
-        FatVolume v = new FatVolume();
+        Volume v = new Volume();
         for (String path : new String[] {"D", "D/E", "D/E/F", "D/E/F/longername"}) {
             Trial.at(v, path).make(true, 1);
         }
@@ -49,7 +49,7 @@ final class RepairTest {
     }
 
     private static void whileDown() {
-        FatVolume v = Trial.at(new FatVolume(), "A");
+        Volume v = Trial.at(new Volume(), "A");
         v.poke(0, 9, 9);
         v.fail(1);
         v.make(false, 0);
@@ -62,7 +62,7 @@ final class RepairTest {
 
     private static void rootByte() {
         for (int b : new int[] {0, 1, 2, 9, 32, 254}) {
-            FatVolume v = new FatVolume();
+            Volume v = new Volume();
             v.poke(0, 2, b);
             Trial.due(1, () -> v.repair());
             Trial.due(255, () -> v.peek(0, 2));
@@ -70,7 +70,7 @@ final class RepairTest {
     }
 
     private static void lostClusters() {
-        FatVolume v = new FatVolume();
+        Volume v = new Volume();
         Trial.put(v, 0, 3, 4, 255, 1, 32, 253, 5);
         v.poke(0, 31, 31);
         Trial.put(v, 1, 3, 9, 9);
@@ -80,7 +80,7 @@ final class RepairTest {
     }
 
     private static void tableBytesThatMeanNothing() {
-        FatVolume v = new FatVolume();
+        Volume v = new Volume();
         Trial.put(v, 0, 0, 77, 78);
         Trial.put(v, 5, 0, 1, 2, 3);
         Trial.due(0, () -> v.repair());
@@ -90,7 +90,7 @@ final class RepairTest {
 
     private static void kindsThatAreNone() {
         for (int kind : new int[] {3, 7, 14, 16, 66, 255}) {
-            FatVolume v = new FatVolume();
+            Volume v = new Volume();
             Trial.putEntry(v, 2, 0, kind, 'A', 'B', 'C', 5, 6, 7, 8);
             Trial.putEntry(v, 2, 7, kind, 0, 0, 0, 0, 0, 0, 1);
             Trial.due(10, () -> v.repair());
@@ -100,7 +100,7 @@ final class RepairTest {
     }
 
     private static void freeEntriesStay() {
-        FatVolume v = new FatVolume();
+        Volume v = new Volume();
         Trial.putEntry(v, 2, 3, 0, 'A', 'B', 'C', 5, 6, 7, 8);
         Trial.due(0, () -> v.repair());
         Trial.due("0 65 66 67 5 6 7 8", () -> Trial.entry(v, 2, 3));
@@ -108,17 +108,17 @@ final class RepairTest {
 
     private static void directoriesThatAreNotRight() {
         for (int first : new int[] {0, 1, 32, 254, 255, 2}) {
-            FatVolume v = new FatVolume();
+            Volume v = new Volume();
             Trial.putEntry(v, 2, 0, 2, 'A', 'B', 'C', first, 6, 7, 8);
             Trial.due(first == 0 ? 7 : 8, () -> v.repair());
             Trial.due("0 0 0 0 0 0 0 0", () -> Trial.entry(v, 2, 0));
         }
-        FatVolume bad = new FatVolume();
+        Volume bad = new Volume();
         Trial.putEntry(bad, 2, 0, 2, 'A', 0, 0, 9, 0, 0, 0);
         bad.poke(0, 9, 254);
         Trial.due(3, () -> bad.repair());
         Trial.due(254, () -> bad.peek(0, 9));
-        FatVolume twice = new FatVolume();
+        Volume twice = new Volume();
         Trial.putEntry(twice, 2, 0, 2, 'A', 0, 0, 9, 0, 0, 0);
         Trial.putEntry(twice, 2, 1, 2, 'B', 0, 0, 9, 0, 0, 0);
         Trial.due(4, () -> twice.repair());
@@ -129,7 +129,7 @@ final class RepairTest {
 
     private static void rightDirectory() {
         for (int first : new int[] {3, 31}) {
-            FatVolume v = new FatVolume();
+            Volume v = new Volume();
             Trial.putEntry(v, 2, 5, 2, 1, 0, 200, first, 6, 7, 8);
             v.poke(0, first, 9);
             v.poke(first, 8, 99);
@@ -141,7 +141,7 @@ final class RepairTest {
     }
 
     private static void directoryFiveDeep() {
-        FatVolume v = new FatVolume();
+        Volume v = new Volume();
         for (int depth = 1; depth <= 5; depth++) {
             Trial.putEntry(v, depth + 1, 0, 2, 'D', 0, 0, depth + 2, 0, 0, 0);
             v.poke(0, depth + 2, 255);
@@ -158,8 +158,8 @@ final class RepairTest {
     }
 
     /** A disk with the file F of some size from cluster 9 on; the table's bytes from 9 on are told. */
-    private static FatVolume withChain(int size, int... table) {
-        FatVolume v = new FatVolume();
+    private static Volume withChain(int size, int... table) {
+        Volume v = new Volume();
         Trial.putEntry(v, 2, 0, 1, 'F', 0, 0, 9, size, 3, 4);
         Trial.put(v, 0, 9, table);
         return v;
@@ -167,35 +167,35 @@ final class RepairTest {
 
     private static void chainEnds() {
         for (int end : new int[] {0, 1, 2, 9, 32, 253}) {
-            FatVolume v = withChain(130, 10, end);
+            Volume v = withChain(130, 10, end);
             Trial.due(2, () -> v.repair());
             Trial.due("1 70 0 0 9 128 3 4", () -> Trial.entry(v, 2, 0));
             Trial.due("10 255 0", () -> Trial.bytes(v, 0, 9, 3));
         }
-        FatVolume bad = withChain(130, 10, 11, 254);
+        Volume bad = withChain(130, 10, 11, 254);
         Trial.due(2, () -> bad.repair());
         Trial.due("10 255 254", () -> Trial.bytes(bad, 0, 9, 3));
-        FatVolume edge = withChain(130, 31);
+        Volume edge = withChain(130, 31);
         edge.poke(0, 31, 3);
         edge.poke(0, 3, 255);
         Trial.due(0, () -> edge.repair());
     }
 
     private static void chainOfThree() {
-        FatVolume v = withChain(255, 10, 11, 12, 13, 255);
+        Volume v = withChain(255, 10, 11, 12, 13, 255);
         Trial.due(4, () -> v.repair());
         Trial.due("1 70 0 0 9 192 3 4", () -> Trial.entry(v, 2, 0));
         Trial.due("10 11 255 0 0", () -> Trial.bytes(v, 0, 9, 5));
-        FatVolume w = withChain(192, 10, 11, 255);
+        Volume w = withChain(192, 10, 11, 255);
         Trial.due(0, () -> w.repair());
-        FatVolume x = withChain(193, 10, 11, 255);
+        Volume x = withChain(193, 10, 11, 255);
         Trial.due(1, () -> x.repair());
     }
 
     private static void chainLongerThanTheSize() {
         int[][] cases = {{64, 1}, {65, 2}, {1, 1}, {128, 2}, {129, 3}};
         for (int[] sizeAndNeed : cases) {
-            FatVolume v = withChain(sizeAndNeed[0], 10, 11, 255);
+            Volume v = withChain(sizeAndNeed[0], 10, 11, 255);
             int need = sizeAndNeed[1];
             Trial.due(need == 3 ? 0 : need == 2 ? 2 : 3, () -> v.repair());
             String due = need == 3 ? "10 11 255" : need == 2 ? "10 255 0" : "255 0 0";
@@ -205,7 +205,7 @@ final class RepairTest {
     }
 
     private static void chainsThatMeet() {
-        FatVolume v = withChain(128, 10, 255, 10);
+        Volume v = withChain(128, 10, 255, 10);
         Trial.putEntry(v, 2, 1, 1, 'G', 0, 0, 11, 128, 0, 0);
         Trial.putEntry(v, 2, 2, 1, 'H', 0, 0, 9, 128, 0, 0);
         Trial.due(2 + 2, () -> v.repair());
@@ -215,20 +215,20 @@ final class RepairTest {
     }
 
     private static void chainInARing() {
-        FatVolume v = withChain(192, 10, 9);
+        Volume v = withChain(192, 10, 9);
         Trial.due(2, () -> v.repair());
         Trial.due("10 255", () -> Trial.bytes(v, 0, 9, 2));
-        FatVolume w = withChain(192, 9);
+        Volume w = withChain(192, 9);
         Trial.due(2, () -> w.repair());
         Trial.due(64, () -> w.peek(2, 5));
     }
 
     private static void clustersGivenBackAreUsable() {
-        FatVolume v = withChain(64, 10, 11, 255);
+        Volume v = withChain(64, 10, 11, 255);
         Trial.putEntry(v, 2, 1, 1, 'G', 0, 0, 10, 128, 0, 0);
         Trial.due(1, () -> v.repair());
         Trial.due("255 11 255", () -> Trial.bytes(v, 0, 9, 3));
-        FatVolume w = withChain(0, 10, 255);
+        Volume w = withChain(0, 10, 255);
         Trial.putEntry(w, 2, 1, 2, 'D', 0, 0, 9, 0, 0, 0);
         Trial.due(1 + 1 + 1, () -> w.repair());
         Trial.due("1 70 0 0 0 0 3 4", () -> Trial.entry(w, 2, 0));
@@ -237,36 +237,36 @@ final class RepairTest {
     }
 
     private static void withoutAnyNeeded() {
-        FatVolume v = withChain(0, 10, 255);
+        Volume v = withChain(0, 10, 255);
         Trial.due(3, () -> v.repair());
         Trial.due("1 70 0 0 0 0 3 4", () -> Trial.entry(v, 2, 0));
         for (int first : new int[] {0, 1, 2, 32, 255}) {
-            FatVolume w = withChain(100, 0);
+            Volume w = withChain(100, 0);
             w.poke(2, 4, first);
             Trial.due(first == 0 ? 1 : 2, () -> w.repair());
             Trial.due("1 70 0 0 0 0 3 4", () -> Trial.entry(w, 2, 0));
         }
-        FatVolume bad = withChain(100, 254);
+        Volume bad = withChain(100, 254);
         Trial.due(2, () -> bad.repair());
         Trial.due(254, () -> bad.peek(0, 9));
         Trial.due("1 70 0 0 0 0 3 4", () -> Trial.entry(bad, 2, 0));
     }
 
     private static void throughFreeClusters() {
-        FatVolume v = withChain(100, 10, 0);
+        Volume v = withChain(100, 10, 0);
         Trial.due(1, () -> v.repair());
         Trial.due("10 255", () -> Trial.bytes(v, 0, 9, 2));
-        FatVolume w = withChain(10, 0);
+        Volume w = withChain(10, 0);
         Trial.due(1, () -> w.repair());
     }
 
     private static void directoryBeforeFile() {
-        FatVolume v = new FatVolume();
+        Volume v = new Volume();
         Trial.putEntry(v, 2, 0, 2, 'D', 0, 0, 9, 0, 0, 0);
         Trial.putEntry(v, 2, 1, 1, 'F', 0, 0, 9, 10, 0, 0);
         v.poke(0, 9, 255);
         Trial.due(2, () -> v.repair());
-        FatVolume w = new FatVolume();
+        Volume w = new Volume();
         Trial.putEntry(w, 2, 0, 1, 'F', 0, 0, 9, 10, 0, 0);
         Trial.putEntry(w, 2, 1, 2, 'D', 0, 0, 9, 0, 0, 0);
         w.poke(0, 9, 255);
@@ -274,7 +274,7 @@ final class RepairTest {
     }
 
     private static void longEntriesKept() {
-        FatVolume v = new FatVolume();
+        Volume v = new Volume();
         Trial.putEntry(v, 2, 0, 15, 66, SUM, 0, 0, 0, 0, 9);
         Trial.putEntry(v, 2, 1, 15, 1, SUM, 0, 0, 0, 0, 0);
         Trial.putEntry(v, 2, 2, 1, 'Q', '~', '1', 0, 0, 0, 0);
@@ -298,7 +298,7 @@ final class RepairTest {
             {{0, 66, SUM}, {15, 1, SUM}},
         };
         for (int[][] rows : before) {
-            FatVolume v = new FatVolume();
+            Volume v = new Volume();
             int bytes = 0;
             for (int i = 0; i < rows.length; i++) {
                 Trial.putEntry(v, 2, 3 + i, rows[i]);
@@ -314,7 +314,7 @@ final class RepairTest {
     }
 
     private static void extraLongEntriesFreed() {
-        FatVolume v = new FatVolume();
+        Volume v = new Volume();
         Trial.putEntry(v, 2, 0, 15, 66, SUM, 'a');
         Trial.putEntry(v, 2, 1, 15, 65, SUM, 'a');
         Trial.putEntry(v, 2, 2, 1, 'Q', '~', '1', 0, 0, 0, 0);
@@ -331,7 +331,7 @@ final class RepairTest {
     }
 
     private static void longEntriesOfWrongEntries() {
-        FatVolume v = new FatVolume();
+        Volume v = new Volume();
         Trial.putEntry(v, 2, 0, 15, 65, SUM);
         Trial.putEntry(v, 2, 1, 2, 'Q', '~', '1', 0, 0, 0, 0);
         Trial.putEntry(v, 2, 2, 15, 65, SUM);
@@ -347,12 +347,12 @@ final class RepairTest {
     }
 
     private static void longEntriesAtTheEnd() {
-        FatVolume v = new FatVolume();
+        Volume v = new Volume();
         Trial.putEntry(v, 2, 5, 1, 'Q', '~', '1', 0, 0, 0, 0);
         Trial.putEntry(v, 2, 6, 15, 66, SUM);
         Trial.putEntry(v, 2, 7, 15, 1, SUM);
         Trial.due(6, () -> v.repair());
-        FatVolume w = new FatVolume();
+        Volume w = new Volume();
         for (int slot = 0; slot < 8; slot++) {
             Trial.putEntry(w, 2, slot, 15, 65, SUM, 1, 1, 1, 1, 1);
         }
@@ -361,7 +361,7 @@ final class RepairTest {
     }
 
     private static void longEntriesBelow() {
-        FatVolume v = new FatVolume();
+        Volume v = new Volume();
         Trial.putEntry(v, 2, 0, 15, 65, SUM, 'd');
         Trial.putEntry(v, 2, 1, 2, 'Q', '~', '1', 9, 0, 0, 0);
         Trial.putEntry(v, 9, 0, 15, 65, SUM, 'e');
@@ -375,7 +375,7 @@ final class RepairTest {
     }
 
     private static void whatIsInADirectoryComesFirst() {
-        FatVolume v = new FatVolume();
+        Volume v = new Volume();
         Trial.putEntry(v, 2, 0, 2, 'D', 0, 0, 9, 0, 0, 0);
         Trial.putEntry(v, 2, 1, 1, 'F', 0, 0, 10, 10, 0, 0);
         Trial.putEntry(v, 9, 7, 1, 'G', 0, 0, 10, 10, 0, 0);
@@ -386,7 +386,7 @@ final class RepairTest {
     }
 
     private static void whatTheBootRecordTells() {
-        FatVolume v = Trial.at(new FatVolume(), "A");
+        Volume v = Trial.at(new Volume(), "A");
         v.make(false, 0);
         Trial.put(v, 0, 9, 9);
         Trial.put(v, 1, 10, 9);
@@ -399,7 +399,7 @@ final class RepairTest {
     }
 
     private static void spoiltAndBadClusters() {
-        FatVolume v = new FatVolume();
+        Volume v = new Volume();
         v.spoil(2);
         v.spoil(9);
         Trial.putEntry(v, 2, 0, 2, 'D', 0, 0, 9, 5, 0, 0);
@@ -413,9 +413,9 @@ final class RepairTest {
     }
 
     private static void countsBytes() {
-        FatVolume v = withChain(0, 254, 9);
+        Volume v = withChain(0, 254, 9);
         Trial.due(2, () -> v.repair());
-        FatVolume w = new FatVolume();
+        Volume w = new Volume();
         Trial.put(w, 0, 9, 10);
         Trial.putEntry(w, 2, 0, 1, 'F', 0, 0, 9, 100, 0, 0);
         Trial.putEntry(w, 2, 1, 1, 'G', 0, 0, 31, 200, 0, 0);

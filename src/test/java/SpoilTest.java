@@ -13,7 +13,7 @@ final class SpoilTest {
     }
 
     private static void numbers() {
-        FatVolume v = new FatVolume();
+        Volume v = new Volume();
         for (int c : new int[] {-1, 0, 1, 32, 33, Integer.MAX_VALUE, Integer.MIN_VALUE}) {
             Trial.due(false, () -> v.spoil(c));
         }
@@ -27,7 +27,7 @@ final class SpoilTest {
     }
 
     private static void putAside() {
-        FatVolume v = Trial.at(new FatVolume(), "D");
+        Volume v = Trial.at(new Volume(), "D");
         Trial.put(v, 3, 0, 9, 9);
         v.spoil(3);
         v.spoil(5);
@@ -47,7 +47,7 @@ final class SpoilTest {
     }
 
     private static void inAChain() {
-        FatVolume v = Trial.withFile("F");
+        Volume v = Trial.withFile("F");
         Trial.fill(v, 128);
         Trial.due(27, () -> v.peek(-1, 2));
         int active = v.peek(-1, 0);
@@ -70,7 +70,7 @@ final class SpoilTest {
 
     private static void aSpoiltWriteCounts() {
         for (int n = 1; n <= 5; n++) {
-            FatVolume v = Trial.at(new FatVolume(), "A");
+            Volume v = Trial.at(new Volume(), "A");
             v.spoil(3);
             v.spoil(4);
             v.fail(n);
@@ -78,7 +78,7 @@ final class SpoilTest {
             v.mount();
             Trial.due(0, () -> v.peek(-1, 3));
         }
-        FatVolume v = Trial.at(new FatVolume(), "A");
+        Volume v = Trial.at(new Volume(), "A");
         v.spoil(3);
         v.spoil(4);
         v.fail(6);
@@ -88,7 +88,7 @@ final class SpoilTest {
     }
 
     private static void stillRead() {
-        FatVolume v = Trial.withFile("F");
+        Volume v = Trial.withFile("F");
         Trial.fill(v, 3);
         int root = v.peek(-1, 1);
         int first = v.look() >> 17;
@@ -104,7 +104,7 @@ final class SpoilTest {
     }
 
     private static void noneLeft() {
-        FatVolume v = Trial.at(new FatVolume(), "A");
+        Volume v = Trial.at(new Volume(), "A");
         for (int c = 3; c < 32; c++) {
             v.spoil(c);
         }
@@ -117,7 +117,7 @@ final class SpoilTest {
     }
 
     private static void refusedMarksNothing() {
-        FatVolume v = Trial.at(new FatVolume(), "D");
+        Volume v = Trial.at(new Volume(), "D");
         Trial.leaveFree(v, 30, 31);
         v.spoil(30);
         v.poke(31, 5, 5);
@@ -130,7 +130,7 @@ final class SpoilTest {
     }
 
     private static void whileDown() {
-        FatVolume v = Trial.at(new FatVolume(), "D");
+        Volume v = Trial.at(new Volume(), "D");
         v.fail(1);
         v.make(true, 0);
         Trial.due(true, () -> v.spoil(3));

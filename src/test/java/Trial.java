@@ -43,14 +43,14 @@ final class Trial {
     }
 
     /** Types a text behind what is in the buffer. */
-    static void append(FatVolume v, String text) {
+    static void append(Volume v, String text) {
         for (int from = 0; from < text.length(); from += 8) {
             String eight = text.substring(from, Math.min(text.length(), from + 8));
             due(true, () -> v.type(packed(eight)));
         }
     }
 
-    static FatVolume at(FatVolume v, String path) {
+    static Volume at(Volume v, String path) {
         v.wipe();
         append(v, path);
         return v;
@@ -69,14 +69,14 @@ final class Trial {
         return (int) packed((text + "\0\0").substring(0, 3));
     }
 
-    static FatVolume withFile(String path) {
-        FatVolume v = at(new FatVolume(), path);
+    static Volume withFile(String path) {
+        Volume v = at(new Volume(), path);
         v.make(false, 1);
         return v;
     }
 
     /** Fills the file of the buffer's path up to a size with the bytes 1, 2, 3 .. */
-    static void fill(FatVolume v, int size) {
+    static void fill(Volume v, int size) {
         for (int at = 0; at < size; at += 8) {
             int n = Math.min(8, size - at);
             long bytes = 0;
@@ -90,11 +90,11 @@ final class Trial {
     }
 
     /** The eight bytes of an entry on a cluster. */
-    static String entry(FatVolume v, int cluster, int slot) {
+    static String entry(Volume v, int cluster, int slot) {
         return bytes(v, cluster, 8 * slot, 8);
     }
 
-    static String bytes(FatVolume v, int where, int from, int n) {
+    static String bytes(Volume v, int where, int from, int n) {
         StringBuilder text = new StringBuilder();
         for (int i = 0; i < n; i++) {
             text.append(i == 0 ? "" : " ").append(v.peek(where, from + i));
@@ -103,7 +103,7 @@ final class Trial {
     }
 
     /** Writes bytes straight on the disk. */
-    static void put(FatVolume v, int where, int from, int... bytes) {
+    static void put(Volume v, int where, int from, int... bytes) {
         for (int i = 0; i < bytes.length; i++) {
             int k = from + i;
             int b = bytes[i];
@@ -111,21 +111,17 @@ final class Trial {
         }
     }
 
-    static void putEntry(FatVolume v, int cluster, int slot, int... bytes) {
+    static void putEntry(Volume v, int cluster, int slot, int... bytes) {
         put(v, cluster, 8 * slot, bytes);
     }
 
     /** All bytes of the disk and its boot record, to see that nothing has changed. */
-    static String disk(FatVolume v) {
-        StringBuilder text = new StringBuilder(bytes(v, -1, 0, 5));
-        for (int where = 0; where < 32; where++) {
-            text.append('\n').append(bytes(v, where, 0, where < 2 ? 32 : 64));
-        }
-        return text.toString();
+    static String disk(Volume v) {
+        return v.disk();
     }
 
     /** Leaves no cluster free but those told. */
-    static void leaveFree(FatVolume v, int... clusters) {
+    static void leaveFree(Volume v, int... clusters) {
         int active = v.peek(-1, 0);
         for (int c = 2; c < 32; c++) {
             if (v.peek(active, c) == 0) {

@@ -17,7 +17,7 @@ final class WriteTest {
 
     private static void lowestBytesHighestFirst() {
         for (int n = 1; n <= 8; n++) {
-            FatVolume v = Trial.withFile("F");
+            Volume v = Trial.withFile("F");
             int count = n;
             Trial.due(n, () -> v.write(0, 0xF1E2D3C4B5A69788L, count, 2));
             int[] all = {0xF1, 0xE2, 0xD3, 0xC4, 0xB5, 0xA6, 0x97, 0x88};
@@ -31,7 +31,7 @@ final class WriteTest {
     }
 
     private static void overWhatIsThere() {
-        FatVolume v = Trial.withFile("F");
+        Volume v = Trial.withFile("F");
         Trial.fill(v, 10);
         Trial.due(10, () -> v.write(3, 0x6162L, 2, 1));
         Trial.due("1 2 3 97 98 6 7 8 9 10 0", () -> Trial.bytes(v, v.look() >> 17, 0, 11));
@@ -42,7 +42,7 @@ final class WriteTest {
     }
 
     private static void places() {
-        FatVolume v = Trial.withFile("F");
+        Volume v = Trial.withFile("F");
         Trial.due(-1, () -> v.write(1, 1L, 1, 1));
         Trial.due(-1, () -> v.write(-1, 1L, 1, 1));
         Trial.due(5, () -> v.write(0, 1L, 5, 1));
@@ -55,7 +55,7 @@ final class WriteTest {
     }
 
     private static void arguments() {
-        FatVolume v = Trial.withFile("F");
+        Volume v = Trial.withFile("F");
         for (int n : new int[] {0, -1, 9, Integer.MAX_VALUE, Integer.MIN_VALUE}) {
             Trial.due(Trial.ARGUMENT, () -> v.write(0, 1L, n, 1));
         }
@@ -69,7 +69,7 @@ final class WriteTest {
     }
 
     private static void noFile() {
-        FatVolume v = Trial.at(new FatVolume(), "D");
+        Volume v = Trial.at(new Volume(), "D");
         v.make(true, 0);
         String before = Trial.disk(v);
         for (String path : new String[] {"D", "E", "D/F", "E/F"}) {
@@ -79,7 +79,7 @@ final class WriteTest {
     }
 
     private static void timeAndSize() {
-        FatVolume v = Trial.withFile("F");
+        Volume v = Trial.withFile("F");
         v.write(0, 1L, 8, 200);
         Trial.due("1 70 0 0 2 8 0 200", () -> Trial.entry(v, v.peek(-1, 1), 0));
         v.write(0, 1L, 1, 3);
@@ -87,7 +87,7 @@ final class WriteTest {
     }
 
     private static void chainIsAnew() {
-        FatVolume v = Trial.withFile("F");
+        Volume v = Trial.withFile("F");
         Trial.fill(v, 64);
         int before = v.look() >> 17;
         int free = v.peek(-1, 2);
@@ -109,7 +109,7 @@ final class WriteTest {
     }
 
     private static void upTo192() {
-        FatVolume v = Trial.withFile("F");
+        Volume v = Trial.withFile("F");
         Trial.fill(v, 185);
         String before = Trial.disk(v);
         Trial.due(Trial.UNSUPPORTED, () -> v.write(185, 1L, 8, 1));
@@ -128,7 +128,7 @@ final class WriteTest {
     }
 
     private static void brokenChainCountsAsZeros() {
-        FatVolume v = Trial.withFile("F");
+        Volume v = Trial.withFile("F");
         Trial.fill(v, 100);
         int active = v.peek(-1, 0);
         int first = v.look() >> 17;
@@ -146,7 +146,7 @@ final class WriteTest {
     }
 
     private static void nothingElseOfTheEntry() {
-        FatVolume v = Trial.withFile("lower");
+        Volume v = Trial.withFile("lower");
         v.poke(3, 8 + 6, 77);
         Trial.due(3, () -> v.write(0, 7L, 3, 2));
         Trial.due("15 65 93 108 111 119 101 114", () -> Trial.entry(v, v.peek(-1, 1), 0));
@@ -154,7 +154,7 @@ final class WriteTest {
     }
 
     private static void tooLongBySizeByte() {
-        FatVolume v = Trial.withFile("F");
+        Volume v = Trial.withFile("F");
         v.poke(3, 5, 193);
         Trial.due(Trial.UNSUPPORTED, () -> v.write(0, 1L, 1, 1));
         Trial.due(Trial.UNSUPPORTED, () -> v.write(193, 1L, 1, 1));
