@@ -13,10 +13,13 @@ final class NameEdgesTest {
         nameOfTenIsFoundWhole();
         partsUpToAZero();
         firstSuchInItsDirectory();
+        firstSuchByEitherName();
+        firstSuchOfEitherKind();
         ownShortNamesByCharacter();
         ownShortNamesByLength();
         oneLongEntryOrTwo();
         firstLetterOrDigitByCharacter();
+        nothingBehindTheNameCounts();
         leastDigitUpToSeven();
         shortNamesAlikeInLetters();
         Trial.end();
@@ -196,6 +199,42 @@ final class NameEdgesTest {
         }
     }
 
+    /** A short name before a long one that is alike, and behind it. */
+    private static void firstSuchByEitherName() {
+        int sum = (4 * 'Z' + 2 * '~' + '9') & 255;
+        Volume before = Trial.at(new Volume(), "q~1");
+        Trial.putEntry(before, 2, 0, 1, 'Q', '~', '1', 0, 0, 0, 5);
+        Trial.putEntry(before, 2, 1, 15, 65, sum, 'Q', '~', '1', 0, 0);
+        Trial.putEntry(before, 2, 2, 1, 'Z', '~', '9', 0, 0, 0, 6);
+        Trial.due(5 * 256, () -> before.look());
+        Volume behind = Trial.at(new Volume(), "q~1");
+        Trial.putEntry(behind, 2, 0, 15, 65, sum, 'Q', '~', '1', 0, 0);
+        Trial.putEntry(behind, 2, 1, 1, 'Z', '~', '9', 0, 0, 0, 6);
+        Trial.putEntry(behind, 2, 2, 1, 'Q', '~', '1', 0, 0, 0, 5);
+        Trial.due(6 * 256, () -> behind.look());
+    }
+
+    /** A file behind a directory of its name is not found, nor a directory behind a file. */
+    private static void firstSuchOfEitherKind() {
+        Volume v = Trial.at(new Volume(), "A");
+        Trial.putEntry(v, 2, 0, 2, 'A', 0, 0, 9, 0, 0, 5);
+        Trial.putEntry(v, 2, 1, 1, 'A', 0, 0, 10, 5, 0, 6);
+        Trial.put(v, 0, 9, 255, 255);
+        Trial.due(5 * 256 + 65536 + 9 * 131072, () -> v.look());
+        Trial.due(-1, () -> v.read(0));
+        Trial.due(-1, () -> v.write(0, 1L, 1, 1));
+        Trial.due(-1, () -> v.cut(0));
+        Trial.due(Trial.name("X"), () -> Trial.at(v, "A/X").make(false, 0));
+        Volume w = Trial.at(new Volume(), "A/X");
+        Trial.putEntry(w, 2, 0, 1, 'A', 0, 0, 0, 0, 0, 6);
+        Trial.putEntry(w, 2, 1, 2, 'A', 0, 0, 9, 0, 0, 5);
+        Trial.putEntry(w, 9, 0, 1, 'X', 0, 0, 0, 0, 0, 7);
+        Trial.due(-1, () -> w.look());
+        Trial.due(-1, () -> w.make(false, 0));
+        Trial.due(1, () -> Trial.at(w, "A").remove());
+        Trial.due(7 * 256, () -> Trial.at(w, "A/X").look());
+    }
+
     private static boolean isCapitalOrDigit(int c) {
         return c >= 'A' && c <= 'Z' || c >= '0' && c <= '9';
     }
@@ -257,6 +296,27 @@ final class NameEdgesTest {
             Trial.due(Trial.name(lead + "~1"), () -> Trial.at(new Volume(), "." + some + "b7").make(false, 0));
             Trial.due(Trial.name(alone + "~1"), () -> Trial.at(new Volume(), "........." + some).make(false, 0));
         }
+    }
+
+    /** Neither what was wiped nor the end of the buffer. */
+    private static void nothingBehindTheNameCounts() {
+        Volume v = Trial.at(new Volume(), "..A");
+        Trial.due(Trial.name("_~1"), () -> Trial.at(v, "..").make(false, 1));
+        Trial.due("46 46 0 0 0", () -> Trial.bytes(v, 3, 3, 5));
+        Trial.at(v, "ABCD");
+        Trial.due(Trial.name("AB"), () -> Trial.at(v, "AB").make(false, 1));
+        Trial.due(-1, () -> Trial.at(v, "ABCD").look());
+        Volume full = new Volume();
+        String path = "abcdefghij";
+        for (int names = 1; names <= 3; names++) {
+            Trial.at(full, path).make(true, 0);
+            path += "/abcdefghij";
+        }
+        Trial.at(full, path.substring(0, 33) + ".......");
+        Trial.due(Trial.name("_~1"), () -> full.make(false, 5));
+        Trial.due(5 * 256, () -> full.look());
+        Trial.due(2, () -> full.write(0, 1L, 2, 6));
+        Trial.due(1, () -> full.remove());
     }
 
     /** Six entries are in the way at most, as the new one needs two. */
