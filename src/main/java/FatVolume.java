@@ -396,11 +396,11 @@ public final class FatVolume {
         }
 
         int state(int cluster) {
-            return tableByte(active, cluster);
+            return tables[TABLE_BYTES * active + cluster];
         }
 
         void setState(int cluster, int v) {
-            setTableByte(active, cluster, v);
+            tables[TABLE_BYTES * active + cluster] = v;
         }
 
         int count(int state) {
